@@ -27,6 +27,7 @@ public final class PromiseTest {
         promise11Drop();
         promise12Encode();
         promise12Order();
+        promise12LongLine();
         promise12Refused();
         promise12TooBig();
         promise12TooDeep();
@@ -472,6 +473,21 @@ public final class PromiseTest {
         dueBytes("12: order", x, doc(flag(8, 0), flag(4, 0), flag(25, 0), flag(9, 0), flag(0, 0)));
     }
 
+    private static void promise12LongLine() {
+        PropertyDocuments x = new PropertyDocuments();
+        for (int cls = 0; cls < 6; cls++) {
+            x.define(cls - 1);
+        }
+        x.property(0, 0, LINK, 0);
+        x.make(5);
+        due("6: six classes in a line", x.link(0, 0, 0), true);
+        x.link(0, 0, NONE);
+        due("12: six classes in a line", x.encode(0, 0), 18);
+        dueBytes("12: six classes in a line", x, doc(mark(5), nothing(0)));
+        due("13: six classes in a line", x.decode(0), 1);
+        due("13: six classes in a line", x.classOf(1), 5);
+    }
+
     private static void promise12Refused() {
         PropertyDocuments x = described();
         x.make(1);
@@ -593,6 +609,9 @@ public final class PromiseTest {
         fill(x, doc(anInt(1, -3)));
         due("13: an int for a long", x.decode(1), 2);
         due("13: an int for a long", x.value(2, 1), -3);
+        fill(x, doc(nothing(3)));
+        due("13: nothing for a link", x.decode(0), 3);
+        due("13: nothing for a link", x.linked(3, 3), NONE);
     }
 
     private static void dueDecode(String what, int cls, int answer, int... bytes) {
@@ -799,6 +818,7 @@ public final class PromiseTest {
         dueSound("an empty name", true, doc(b(10, 0)));
         dueSound("a name of 1 and 127", true, doc(b(10, 1, 127, 0)));
         dueSound("a name of 128", false, doc(b(10, 128, 0)));
+        dueSound("a name that goes on behind 128", false, doc(b(10, 128, 10, 0)));
         dueSound("a name of 255", false, doc(b(10, 97, 255, 0)));
         dueSound("a name without an end", false, 7, 0, 0, 0, 10, 97, 97);
         dueSound("a flag 0", true, doc(flag(0, 0)));
