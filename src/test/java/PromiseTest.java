@@ -1,5 +1,13 @@
-import java.util.ArrayList;
-import java.util.List;
+import static written.Documents.aLong;
+import static written.Documents.anInt;
+import static written.Documents.b;
+import static written.Documents.doc;
+import static written.Documents.flag;
+import static written.Documents.inner;
+import static written.Documents.join;
+import static written.Documents.mark;
+import static written.Documents.nested;
+import static written.Documents.nothing;
 
 /** Each promise of the document by itself: ordinary inputs, the edges that it names, and wrong inputs. */
 public final class PromiseTest {
@@ -69,61 +77,6 @@ public final class PromiseTest {
         for (int i = 0; i < want.length; i++) {
             due(what + ": byte " + i, x.byteAt(i), want[i]);
         }
-    }
-
-    // Bytes by hand.
-
-    private static int[] join(int[]... parts) {
-        List<Integer> all = new ArrayList<>();
-        for (int[] part : parts) {
-            for (int b : part) {
-                all.add(b);
-            }
-        }
-        return all.stream().mapToInt(Integer::intValue).toArray();
-    }
-
-    private static int[] b(int... bytes) {
-        return bytes;
-    }
-
-    private static int[] doc(int[]... elements) {
-        int[] body = join(elements);
-        return join(b(body.length + 5, 0, 0, 0), body, b(0));
-    }
-
-    private static int[] mark(int cls) {
-        return b(2, 95, 116, 0, 2, 0, 0, 0, 65 + cls, 0);
-    }
-
-    private static int[] anInt(int letter, int value) {
-        return b(16, 97 + letter, 0, value & 255, value >> 8 & 255, value >> 16 & 255, value >> 24 & 255);
-    }
-
-    private static int[] aLong(int letter, long value) {
-        int[] element = new int[11];
-        element[0] = 18;
-        element[1] = 97 + letter;
-        for (int i = 0; i < 8; i++) {
-            element[3 + i] = (int) (value >> 8 * i & 255);
-        }
-        return element;
-    }
-
-    private static int[] flag(int letter, int value) {
-        return b(8, 97 + letter, 0, value);
-    }
-
-    private static int[] nothing(int letter) {
-        return b(10, 97 + letter, 0);
-    }
-
-    private static int[] inner(int letter, int[] document) {
-        return join(b(3, 97 + letter, 0), document);
-    }
-
-    private static int[] nested(int depth) {
-        return depth == 1 ? doc() : doc(inner(0, nested(depth - 1)));
     }
 
     private static void fill(PropertyDocuments x, int... bytes) {
