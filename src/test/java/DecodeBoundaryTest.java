@@ -11,6 +11,7 @@ import static written.Documents.mark;
 import static written.Documents.markSaying;
 import static written.Documents.nothing;
 import static written.Documents.text;
+import static written.Documents.times;
 
 /** The boundary cases of promise 13 and of the term "a document fits a class". */
 public final class DecodeBoundaryTest {
@@ -51,6 +52,8 @@ public final class DecodeBoundaryTest {
         Due.test("13: links are NONE for type 10", DecodeBoundaryTest::nothingLinked);
         Due.test("13: taken in the order in which they begin", DecodeBoundaryTest::orderOfDocuments);
         Due.test("13: the bytes of the buffer, which stay", DecodeBoundaryTest::bytesStay);
+        Due.test("A call that is refused changes nothing", DecodeBoundaryTest::refusedInARow);
+        Due.test("a decode that answers less than 0 changes nothing", DecodeBoundaryTest::decodesInARow);
         Due.end();
     }
 
@@ -489,5 +492,37 @@ public final class DecodeBoundaryTest {
         filled.keeps("decode", x -> x.decode(0), Look.Part.BYTES, Look.Part.DESCRIPTION);
         filled.then(x -> x.decode(0)).answers("once more", x -> x.decode(0), 5);
         filled.then(x -> x.decode(0)).then(x -> x.drop()).answers("after drop", x -> x.decode(0), 0);
+    }
+
+    /** One refused call of each kind, one behind the other: each may spoil what the next one looks at. */
+    private static void refuseAll(PropertyDocuments x) {
+        Due.equal("define", x.define(NONE), NONE);
+        Due.equal("property", x.property(0, 9, INT, 0) ? 1 : 0, 0);
+        Due.equal("make", x.make(0), NONE);
+        Due.equal("put", x.put(11, 0, 1L << 32) ? 1 : 0, 0);
+        Due.equal("link", x.link(11, 3, 12) ? 1 : 0, 0);
+        Due.equal("encode for a stranger", x.encode(11, 4), NONE);
+        Due.equal("encode of a ring", x.encode(11, 2), PropertyDocuments.TOO_BIG);
+        Due.equal("decode", x.decode(0), NOT_SOUND);
+        Due.equal("decode for no class", x.decode(6), NONE);
+        Due.equal("poke", x.poke(120, 1) ? 1 : 0, 0);
+        Due.equal("poke of no byte", x.poke(0, 256) ? 1 : 0, 0);
+        Due.equal("cut", x.cut(121) ? 1 : 0, 0);
+    }
+
+    private static void refusedInARow() {
+        Scene full = objects(12).withBytes(times(120, 255));
+        full.keeps("all refused calls in a row", x -> refuseAll(x), Look.Part.values());
+        full.then(x -> refuseAll(x)).keeps("and once more", x -> refuseAll(x), Look.Part.values());
+    }
+
+    private static void decodesInARow() {
+        Scene full = objects(11).withBytes(doc(anInt(0, 9), inner(3, doc(aLong(1, 9)))));
+        full.keeps("decodes in a row", x -> {
+            Due.equal("no class", x.decode(6), NONE);
+            Due.equal("not fitting", x.decode(4), NOT_FITTING);
+            Due.equal("full", x.decode(0), FULL);
+            Due.equal("full for the child", x.decode(2), FULL);
+        }, Look.Part.values());
     }
 }

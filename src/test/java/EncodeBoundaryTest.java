@@ -262,7 +262,8 @@ public final class EncodeBoundaryTest {
                 }
                 x.make(c);
             });
-            child.then(x -> x.encode(0, 0)).dueBytes("class " + c, 15, 0, 0, 0, 2, 95, 116, 0, 2, 0, 0, 0, 65 + c, 0, 0);
+            child.then(x -> x.encode(0, 0)).dueBytes("class " + c,
+                15, 0, 0, 0, 2, 95, 116, 0, 2, 0, 0, 0, 65 + c, 0, 0);
         }
     }
 
@@ -300,8 +301,8 @@ public final class EncodeBoundaryTest {
     }
 
     private static void int32s() {
-        int[] values = {LEAST, LEAST + 1, -65537, -65536, -257, -256, -255, -129, -128, -2, -1, 0, 1, 127, 128, 255, 256,
-            65535, 65536, 0xFFFFFF, 0x1000000, MOST - 1, MOST};
+        int[] values = {LEAST, LEAST + 1, -65537, -65536, -257, -256, -255, -129, -128, -2, -1, 0, 1, 127, 128, 255,
+            256, 65535, 65536, 0xFFFFFF, 0x1000000, MOST - 1, MOST};
         for (int value : values) {
             Scene put = single(0, INT).then(x -> x.put(0, 0, value)).then(x -> x.encode(0, 0));
             put.dueBytes("INT " + value, doc(anInt(0, value)));
@@ -316,8 +317,8 @@ public final class EncodeBoundaryTest {
     }
 
     private static void int64s() {
-        long[] values = {Long.MIN_VALUE, Long.MIN_VALUE + 1, -(1L << 32) - 1, -(1L << 32), LEAST - 1L, LEAST, -256, -1, 0,
-            1, 255, 256, MOST, MOST + 1L, 0xFFFFFFFFL, 1L << 32, 1L << 40, 1L << 55, 1L << 56, Long.MAX_VALUE};
+        long[] values = {Long.MIN_VALUE, Long.MIN_VALUE + 1, -(1L << 32) - 1, -(1L << 32), LEAST - 1L, LEAST, -256, -1,
+            0, 1, 255, 256, MOST, MOST + 1L, 0xFFFFFFFFL, 1L << 32, 1L << 40, 1L << 55, 1L << 56, Long.MAX_VALUE};
         for (long value : values) {
             Scene put = single(0, LONG).then(x -> x.put(0, 0, value)).then(x -> x.encode(0, 0));
             put.dueBytes("LONG " + value, doc(aLong(0, value)));

@@ -16,6 +16,8 @@ public final class ObjectBoundaryTest {
         Due.test("4: cls is no class", ObjectBoundaryTest::makeClass);
         Due.test("at most 12 objects; 4: there are 12 objects", ObjectBoundaryTest::twelveObjects);
         Due.test("The values are 0 and NONE at first", ObjectBoundaryTest::firstValues);
+        Due.test("a value for each property of the class", ObjectBoundaryTest::fullOfValues);
+        Due.test("a link for each property of the class", ObjectBoundaryTest::fullOfLinks);
         Due.test("5: there is no such object", ObjectBoundaryTest::putObject);
         Due.test("5: its class has no such property", ObjectBoundaryTest::putProperty);
         Due.test("5: or it is a LINK", ObjectBoundaryTest::putLink);
@@ -120,6 +122,49 @@ public final class ObjectBoundaryTest {
             again.answers("FLAG of object " + made, x -> x.value(made, 25), 0);
             again.answers("LINK of object " + made, x -> x.linked(made, 3), NONE);
         }
+    }
+
+    /** Twelve objects of a class with eight properties of that sort. */
+    private static Scene full(int sort) {
+        return Scene.fresh().then(x -> {
+            x.define(NONE);
+            for (int letter = 0; letter < 8; letter++) {
+                x.property(0, letter, sort, 0);
+            }
+            for (int i = 0; i < 12; i++) {
+                x.make(0);
+            }
+        });
+    }
+
+    private static void fullOfValues() {
+        Scene full = full(LONG).then(x -> {
+            for (int i = 0; i < 96; i++) {
+                x.put(i / 8, i % 8, OVER + i);
+            }
+        });
+        for (int i = 0; i < 96; i++) {
+            int object = i / 8;
+            int letter = i % 8;
+            full.answers("object " + object + ", letter " + letter, x -> x.value(object, letter), OVER + i);
+        }
+        full.refuses("the thirteenth object", x -> x.make(0), NONE);
+        full.refuses("a ninth property", x -> x.put(11, 8, 1));
+    }
+
+    private static void fullOfLinks() {
+        Scene full = full(LINK).then(x -> {
+            for (int i = 0; i < 96; i++) {
+                x.link(i / 8, i % 8, i % 12);
+            }
+        });
+        for (int i = 0; i < 96; i++) {
+            int object = i / 8;
+            int letter = i % 8;
+            full.answers("object " + object + ", letter " + letter, x -> x.linked(object, letter), i % 12);
+        }
+        full.refuses("the thirteenth object", x -> x.make(0), NONE);
+        full.refuses("a ninth property", x -> x.link(11, 8, 1));
     }
 
     private static void putObject() {
